@@ -676,7 +676,6 @@ public final class ClassMaker4 {
 
         /** How long the bytes of a row of each op are, without those of a jump. */
         private static final int[] ROW_LENGTHS = {8, 12, 20, 20, 20, 20, 20, 16, 9, 0, 5, 5, 5, 16};
-        private static final int[] ARITHMETIC = {IADD, ISUB, IMUL, IDIV, IREM};
         private static final int GOTO_LENGTH = 3;
         private static final int LEAVE_LENGTH = 4;
         private static final int LOAD_LENGTH = 6;
@@ -798,7 +797,8 @@ public final class ClassMaker4 {
                     writeRow(row, starts[i]);
                 }
             }
-            leave(lastRow + 1);
+            withIndex(SIPUSH, lastRow + 1);
+            u1(IRETURN);
             methodEnd();
         }
 
@@ -872,22 +872,29 @@ public final class ClassMaker4 {
                     hand(row.a, METHOD_SIZE);
                     break;
                 default:
-                    writeArithmetic(row);
+                    address(row.a);
+                    load(row.a);
+                    load(row.b);
+                    u1(arithmeticOf(row.op));
+                    u1(INT_TO_BYTE);
+                    u1(BASTORE);
                     break;
             }
         }
 
-        private void writeArithmetic(Row row) {
-            int i = row.op - OP_ADD;
-            if (i < 0 || i >= ARITHMETIC.length) {
-                return;
+        private int arithmeticOf(int op) {
+            switch (op) {
+                case OP_ADD:
+                    return IADD;
+                case OP_SUBTRACT:
+                    return ISUB;
+                case OP_MULTIPLY:
+                    return IMUL;
+                case OP_DIVIDE:
+                    return IDIV;
+                default:
+                    return IREM;
             }
-            address(row.a);
-            load(row.a);
-            load(row.b);
-            u1(ARITHMETIC[i]);
-            u1(INT_TO_BYTE);
-            u1(BASTORE);
         }
 
         private void address(int workingByte) {
@@ -911,13 +918,9 @@ public final class ClassMaker4 {
             if (isInside(row) && i >= 0 && i < starts.length) {
                 withIndex(GOTO, starts[i] - place);
             } else {
-                leave(row);
+                withIndex(SIPUSH, row);
+                u1(IRETURN);
             }
-        }
-
-        private void leave(int row) {
-            withIndex(SIPUSH, row);
-            u1(IRETURN);
         }
 
         private void push(int value) {
@@ -927,7 +930,8 @@ public final class ClassMaker4 {
 
         private void withIndex(int instruction, int index) {
             u1(instruction);
-            u2(index);
+            u1(index >> 8);
+            u1(index);
         }
 
         private void methodHead(int name, int type, int stack, int locals, int codeLength) {
