@@ -546,7 +546,7 @@ public final class ClassMaker4 {
         }
     }
 
-    /** Runs classes; each method answers false, or OVER, when the whole run has ended. */
+    /** Runs classes; false, or OVER, says that the whole run has ended, not this class alone. */
     private static final class Machine {
         private static final int OVER = 0;
 
@@ -633,6 +633,9 @@ public final class ClassMaker4 {
         private static final int MOST_FILE_BYTES = 2048;
         private static final int MEMBER_ROWS = 10;
 
+        private static final int FILE_VERSION = 46;
+        private static final int PUBLIC_CLASS = 33;
+        private static final int STATIC_MEMBER = 8;
         private static final int CONSTANT_TEXT = 1;
         private static final int CONSTANT_CLASS = 7;
         private static final int CONSTANT_FIELD = 9;
@@ -681,6 +684,10 @@ public final class ClassMaker4 {
         private static final int LOAD_LENGTH = 6;
         private static final int BRANCH_LENGTH = 3;
         private static final int CALL_LENGTH = 5;
+        private static final int START_LENGTH = 8;
+        private static final int FAILURE_LENGTH = 4;
+        private static final int SWITCH_LENGTH = 16;
+        private static final int SWITCH_ROW_LENGTH = 4;
 
         final byte[] bytes;
         final int[] starts;
@@ -715,7 +722,7 @@ public final class ClassMaker4 {
         private void writeConstants(int program, int members) {
             u4(0xCAFEBABE);
             u2(0);
-            u2(46);
+            u2(FILE_VERSION);
             u2(FIRST_MEMBER_NAME + members);
             numberedText('P', program);
             classConstant(1);
@@ -750,12 +757,12 @@ public final class ClassMaker4 {
         }
 
         private void writeFace(int members) {
-            u2(33);
+            u2(PUBLIC_CLASS);
             u2(2);
             u2(4);
             u2(0);
             u2(1);
-            u2(8);
+            u2(STATIC_MEMBER);
             u2(5);
             u2(6);
             u2(0);
@@ -763,7 +770,8 @@ public final class ClassMaker4 {
         }
 
         private void writeStart(Program program) {
-            methodHead(TEXT_START, TEXT_START_TYPE, 2, 0, program.startFails ? 12 : 8);
+            int codeLength = program.startFails ? FAILURE_LENGTH + START_LENGTH : START_LENGTH;
+            methodHead(TEXT_START, TEXT_START_TYPE, 2, 0, codeLength);
             if (program.startFails) {
                 u1(ICONST_0);
                 u1(ICONST_0);
@@ -780,7 +788,7 @@ public final class ClassMaker4 {
 
         private void writeMember(Program program, int member) {
             int rows = lastRow - firstRow + 1;
-            int end = layOutRows(program, 16 + 4 * rows);
+            int end = layOutRows(program, SWITCH_LENGTH + SWITCH_ROW_LENGTH * rows);
             methodHead(FIRST_MEMBER_NAME + member, TEXT_MEMBER_TYPE, 5, 1, end + LEAVE_LENGTH);
             u1(ILOAD_0);
             u1(TABLESWITCH);
@@ -935,7 +943,7 @@ public final class ClassMaker4 {
         }
 
         private void methodHead(int name, int type, int stack, int locals, int codeLength) {
-            u2(8);
+            u2(STATIC_MEMBER);
             u2(name);
             u2(type);
             u2(1);

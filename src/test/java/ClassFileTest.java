@@ -1,6 +1,10 @@
 import java.util.Random;
 
-/** Every byte of class files, against files written here by hand and by a second writer. */
+/**
+ * Every byte of class files, against files written here by hand and by a second writer.
+ * Long files take more than the 512 calls of an object that the document promises; this
+ * class goes on answering, and so the files are looked at whole.
+ */
 public final class ClassFileTest {
     private static final String[] OPS = {"60", "64", "68", "6C", "70"};
 
