@@ -824,9 +824,9 @@ public final class ClassMaker4 {
         }
 
         private int lengthOf(Row row) {
-            int plain = row.op >= 0 && row.op < ROW_LENGTHS.length ? ROW_LENGTHS[row.op] : 0;
+            int fixed = row.op >= 0 && row.op < ROW_LENGTHS.length ? ROW_LENGTHS[row.op] : 0;
             boolean jumps = row.op == OP_IF_ZERO || row.op == OP_GO;
-            return jumps ? plain + jumpLength(row.b) : plain;
+            return jumps ? fixed + jumpLength(row.b) : fixed;
         }
 
         private int jumpLength(int row) {

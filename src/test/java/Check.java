@@ -18,12 +18,17 @@ final class Check {
         due(call, got ? 1 : 0, want ? 1 : 0);
     }
 
+    /** The machine's own text begins with Index; the class throws for itself, ahead of the machine. */
+    private static boolean isThrownByHand(RuntimeException e) {
+        return e.getClass() == ArrayIndexOutOfBoundsException.class && !String.valueOf(e.getMessage()).startsWith("Index");
+    }
+
     static void noByteAt(ClassMaker4 x, int unit, int program, int i) {
         boolean thrown = false;
         try {
             x.at(unit, program, i);
         } catch (RuntimeException e) {
-            thrown = e.getClass() == ArrayIndexOutOfBoundsException.class;
+            thrown = isThrownByHand(e);
         }
         due("at(" + unit + ", " + program + ", " + i + ") throws", thrown, true);
     }
@@ -33,7 +38,7 @@ final class Check {
         try {
             x.octet(type, i);
         } catch (RuntimeException e) {
-            thrown = e.getClass() == ArrayIndexOutOfBoundsException.class;
+            thrown = isThrownByHand(e);
         }
         due("octet(" + type + ", " + i + ") throws", thrown, true);
     }

@@ -327,8 +327,26 @@ public final class PromisesTest {
         Check.due("marks at most 100", x.told(1, 3), 100);
         Check.due("the 100th", x.mark(1, 99), 4);
         Check.due("no 101st", x.mark(1, 100), -1);
+        endless();
         thousand(0, 1, 0, 1000);
         thousand(1, 2, 7, 1000);
+    }
+
+    private static void endless() {
+        ClassMaker4 x = one(1);
+        x.program(1, false);
+        x.code(1, 9, 0, 1);
+        x.code(2, 10, 1, 0);
+        x.code(2, 11, 1, 0);
+        Check.due("endless", runNew(x, 1, 1), 2);
+        Check.due("raised", x.raised(1), 7);
+        Check.due("steps", x.told(1, 2), 1000);
+        Check.due("told 0", x.told(1, 0), 1);
+        Check.due("endless within a call", runNew(x, 1, 2), 2);
+        Check.due("raised", x.raised(1), 7);
+        Check.due("steps", x.told(1, 2), 1000);
+        Check.due("told 0", x.told(1, 0), 1);
+        Check.due("marks", x.told(1, 3), 0);
     }
 
     /** A run that takes just 1000 steps, with calls, and more rows on top. */
@@ -400,13 +418,16 @@ public final class PromisesTest {
                 x.code(p, 11, p, 0);
                 if (p < last) {
                     x.code(p, 10, p + 1, 0);
+                    x.code(p, 11, 100 + p, 0);
                 }
             }
             boolean fits = last <= 11;
             Check.due(last + " within one another", runNew(x, 1, 1), fits ? 1 : 2);
             Check.due("raised", x.raised(1), fits ? 0 : 3);
             Check.due("told 0", x.told(1, 0), fits ? -1 : 11);
-            Check.due("marks", x.told(1, 3), Math.min(last, 11));
+            Check.due("marks", x.told(1, 3), fits ? 2 * last - 1 : 11);
+            Check.due("the innermost mark", x.mark(1, Math.min(last, 11) - 1), Math.min(last, 11));
+            Check.due("a mark on the way back", x.mark(1, last), fits ? 100 + last - 1 : -1);
             Check.due("classes", x.count(2), Math.min(last, 11));
         }
         ClassMaker4 x = new ClassMaker4();
