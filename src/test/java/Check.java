@@ -2,15 +2,25 @@
 final class Check {
     private static int asked = 0;
     private static int wrong = 0;
+    private static String subject = "";
 
     private Check() {
+    }
+
+    /** What the answers to come are about, told with each wrong one. */
+    static void about(String what) {
+        subject = what.isEmpty() ? "" : what + ": ";
+    }
+
+    static int asked() {
+        return asked;
     }
 
     static void due(String call, long got, long want) {
         asked++;
         if (got != want) {
             wrong++;
-            System.out.println(call + " answered " + got + ", due is " + want);
+            System.out.println(subject + call + " answered " + got + ", due is " + want);
         }
     }
 
