@@ -655,6 +655,21 @@ public final class RunningTest {
         Check.due("the caller's didn't", x.state(1), 4);
     }
 
+    @Sentence(promise = 6, says = "A run ABENDS by 1 division by 0, 2 a working byte that isn't there, 3 a call within ten others")
+    static void anAbendWithinACallEndsTheWholeRun() {
+        int[][] rows = {{5, 0, 0}, {6, 0, 0}, {0, 0, -1, 7, 0, 0}, {10, 2, 0}, {13, 0, -1}, {10, 12, 0}, {9, 0, 1}};
+        int[] by = {1, 1, 2, 3, 4, 6, 7};
+        int[] steps = {2, 2, 3, 11, 2, 2, 1000};
+        for (int i = 0; i < rows.length; i++) {
+            ClassMaker4 x = Setting.programs(2);
+            Setting.rows(x, 1, 10, 2, 0, 11, 1, 0, 5, 0, 0);
+            Setting.rows(x, 2, rows[i]);
+            Setting.rows(x, 2, 11, 2, 0);
+            runAbends(x, by[i], 2, steps[i]);
+            Check.due("no row behind it, in either", x.told(1, 3), 0);
+        }
+    }
+
     /** Program 1 abends and is run again in the same unit, and so are others. */
     private static void unitGoesOn(ClassMaker4 x, int by) {
         Check.due("run", Setting.runNew(x, 1, 1), 2);
