@@ -323,7 +323,7 @@ public final class ClassFileTest {
         return code.append("11").append(u2(last + 1)).append("AC").toString();
     }
 
-    private static byte[] written(int program, int size, boolean startFails, int[][] rows, int count) {
+    static byte[] written(int program, int size, boolean startFails, int[][] rows, int count) {
         int members = (count + 9) / 10;
         StringBuilder file = new StringBuilder("CAFEBABE0000002E").append(u2(28 + members));
         file.append(text("P" + program)).append(FIXED);
