@@ -63,7 +63,7 @@ public final class ReadmeTest {
     }
 
     private static List<?> answersOf(String body) throws IOException, ReflectiveOperationException {
-        Path place = Files.createTempDirectory("readme");
+        Path place = Files.createTempDirectory(Files.createDirectories(Path.of("build")), "readme");
         Path source = place.resolve("Example.java");
         Path compiled = place.resolve("Example.class");
         Files.writeString(source, "public final class Example { public static java.util.List<Long> answers() {\n"
