@@ -41,7 +41,7 @@ public final class SecondReadingTest {
 
     private void calls() {
         begin(1 + random.nextInt(3), 1 + random.nextInt(4));
-        for (int i = x.count(0) + x.count(1); i < CALLS; i++) {
+        for (int i = y.count(0) + y.count(1); i < CALLS; i++) {
             if (random.nextInt(100) < 35) {
                 look();
             } else {
